@@ -1,0 +1,153 @@
+/** What a TABLE's bytes tell: tokens, numbers, rows, beginnings, odd rows, and what is wrong. */
+public final class TableRowsTest {
+    public static void main(String[] args) {
+        blanks();
+        numbers();
+        beginnings();
+        wrongTokens();
+        wrongRowsAndBeginnings();
+        wrongEnds();
+        oddRows();
+        objectsAboveTheLast();
+        firstRowOfAnObject();
+        Check.end();
+    }
+
+    /** A table that is read at once; every USED row in it has place 0 and is WRONG, so heads are given. */
+    private static CrossTables read(String text) {
+        CrossTables x = new CrossTables();
+        Maker.table(x, 10, -1, text);
+        x.read(10);
+        return x;
+    }
+
+    private static void blanks() {
+        for (char blank : new char[] {0, 9, 10, 12, 13, 32}) {
+            CrossTables x = read("7 1 5 6 f".replace(' ', blank));
+            Maker.counts("blank " + (int) blank, x, 7, 1, 5, 6);
+            Maker.told("blank " + (int) blank, x, 3, 0, 4);
+        }
+        for (char other : new char[] {1, 8, 11, 14, 31, 33, 47, 58, 127, 128, 160, 255, 266 - 256 + 128}) {
+            CrossTables x = read("7" + other + "1 5 6 f");
+            Maker.nothingCounts("no blank " + (int) other, x, 7);
+            Maker.told("no blank " + (int) other, x, 4, 0, 0);
+        }
+        Maker.told("no bytes", read(""));
+        Maker.told("blanks only", read(" \n\t\r\f\0"));
+        Maker.told("blanks before", read("  \n 0 0"));
+        Maker.told("blanks before what is wrong", read("  \n x"), 4, 0, 4);
+    }
+
+    private static void numbers() {
+        CrossTables x = read("7 2 9999999999 9999999999 f\n0 9999999998 n");
+        Maker.counts("ten digits", x, 7, 1, Maker.LAST, Maker.LAST);
+        Maker.counts("a generation that no head has", x, 8, 4, 0, 9999999998L);
+        Maker.told("ten digits", x, 3, 0, 4, 3, 0, 28, 7, 8, 0);
+        Maker.told("eleven digits", read("00000000001 0"), 4, 0, 0);
+        Maker.told("eleven digits behind", read("1 00000000000"), 4, 0, 2);
+        Maker.told("ten digits are a number", read("0000000001 0000000000"));
+        Maker.told("a sign", read("1 -1"), 4, 0, 2);
+        Maker.told("a plus", read("+1 1"), 4, 0, 0);
+        Maker.told("a letter behind", read("1 1a"), 4, 0, 2);
+        Maker.told("below the digits", read("1 1/"), 4, 0, 2);
+        Maker.told("above the digits", read("1 :1"), 4, 0, 2);
+        Maker.told("a byte above 127", read("1 " + (char) 0xB1), 4, 0, 2);
+    }
+
+    private static void beginnings() {
+        CrossTables x = read("3 1\n" + Maker.row(1, 1, 'f') + "5 2\n" + Maker.row(2, 2, 'f') + Maker.row(3, 3, 'f')
+                + "9 0\n8 0\n20 1\n" + Maker.row(4, 4, 'f'));
+        Maker.counts("3", x, 3, 1, 1, 1);
+        Maker.counts("5", x, 5, 1, 2, 2);
+        Maker.counts("6", x, 6, 1, 3, 3);
+        Maker.counts("20", x, 20, 1, 4, 4);
+        Maker.nothingCounts("4", x, 4);
+        Maker.nothingCounts("7", x, 7);
+        Maker.nothingCounts("9", x, 9);
+        Maker.told("beginnings", x);
+    }
+
+    private static void wrongTokens() {
+        Maker.told("first", read("x 1"), 4, 0, 0);
+        Maker.told("second", read("0 x"), 4, 0, 2);
+        Maker.told("n first", read("n"), 4, 0, 0);
+        Maker.told("f second", read("0 f"), 4, 0, 2);
+        Maker.told("third of a beginning", read("0 0 x"), 4, 0, 4);
+        Maker.told("longer than n", read("0 0 nn"), 4, 0, 4);
+        Maker.told("a capital", read("0 0 N"), 4, 0, 4);
+        Maker.told("first of a row", read("0 1 x 0 n"), 4, 0, 4);
+        Maker.told("second of a row", read("0 1 0 x n"), 4, 0, 6);
+        Maker.told("n twice", read("0 2 1 0 f f"), 3, 0, 4, 4, 0, 10);
+        CrossTables x = read("0 2\n" + Maker.row(1, 0, 'f') + "x " + Maker.row(0, 0, 'f') + "5 1 " + Maker.row(0, 0, 'f'));
+        Maker.counts("before what is wrong", x, 0, 1, 1, 0);
+        Maker.nothingCounts("behind it nothing is read", x, 1);
+        Maker.nothingCounts("behind it nothing is read", x, 5);
+        Maker.told("nothing is read", x, 4, 0, 24);
+    }
+
+    private static void wrongRowsAndBeginnings() {
+        Maker.told("a row when none is due", read("0 0 n"), 4, 0, 0);
+        Maker.told("a row when none is due any more", read("0 1 " + Maker.row(0, 0, 'f') + Maker.row(0, 0, 'f')), 4, 0, 24);
+        Maker.told("a row behind a beginning without rows", read("5 0 1 1 f"), 4, 0, 4);
+        Maker.told("a row of more than 100", read("5 0 1 101 f"), 4, 0, 4);
+        Maker.told("a beginning when a row is due", read("0 1 0 1 0 0 n"), 4, 0, 4);
+        Maker.told("a beginning when a row is due, at the end", read("0 1 0 0"), 4, 0, 4);
+        Maker.told("a beginning when a row is due, another token", read("0 1 0 0 x"), 4, 0, 4);
+        Maker.told("101 due", read(" 0 101"), 4, 0, 1);
+        Maker.told("9999999999 due", read("0 9999999999"), 4, 0, 0);
+        Maker.told("4294967296 due", read("0 4294967296"), 4, 0, 0);
+        Maker.told("100 due", read("0 100"), 4, 0, 5);
+        CrossTables x = read("0 1 0 0 n\n1 1 0 0 x");
+        Maker.counts("a row before", x, 0, 4, 0, 0);
+        Maker.nothingCounts("no row", x, 1);
+        Maker.told("one row, one beginning", x, 3, 0, 4, 4, 0, 14, 7, 0, 0);
+    }
+
+    private static void wrongEnds() {
+        Maker.told("behind one number", read("0"), 4, 0, 1);
+        Maker.told("behind one number and blanks", read("0  \n"), 4, 0, 4);
+        Maker.told("rows are due", read("0 1"), 4, 0, 3);
+        Maker.told("rows are due, blanks", read("0 1\n\n"), 4, 0, 5);
+        Maker.told("one number of a row", read("0 1 7 "), 4, 0, 6);
+        Maker.told("one row more is due", read("0 2\n" + Maker.row(0, 0, 'f')), 4, 0, 24);
+        Maker.told("no row is due", read("0 0\n"));
+        Maker.told("one number behind the rows", read("0 1\n" + Maker.row(0, 0, 'f') + "5"), 4, 0, 25);
+    }
+
+    private static void oddRows() {
+        String good = "0000000001 00000 f \n";
+        Maker.told("twenty", read("0 2\n" + good + good));
+        Maker.told("twenty, the beginning behind", read("0 1\n" + good + "5 0"));
+        Maker.told("a blank too few", read("0 2\n0000000001 00000 f\n" + good), 3, 0, 4);
+        Maker.told("a blank too many", read("0 2\n0000000001 00000 f  \n" + good), 3, 0, 4);
+        Maker.told("the end too early", read("0 1\n0000000001 00000 f "), 3, 0, 4);
+        Maker.told("the end too late", read("0 1\n" + good + "\n"), 3, 0, 4);
+        Maker.told("other blanks inside", read("0 1\n1    00000 f        \n" + "5 0"), 3, 0, 4);
+        Maker.told("twenty with other digits", read("0 1\n1    00000 f       \n" + "5 0"));
+        Maker.told("odd, then wrong", read("0 2\n1 2 f x"), 3, 0, 4, 4, 0, 10);
+        Maker.told("odd where an object tells nothing", read("100 1\n1 2 f"), 3, 0, 6);
+        CrossTables x = read("0 1\n3 2 f");
+        Maker.counts("an odd row counts", x, 0, 1, 3, 2);
+        Maker.told("a wrong row is not odd", read("3 2 f"), 4, 0, 0);
+    }
+
+    private static void objectsAboveTheLast() {
+        CrossTables x = read("98 4\n" + Maker.row(1, 1, 'f') + Maker.row(2, 2, 'f') + Maker.row(3, 3, 'f')
+                + Maker.row(4, 4, 'f') + "9999999999 1\n" + Maker.row(5, 5, 'f') + "0 1\n" + Maker.row(6, 6, 'f')
+                + "4294967297 1\n" + Maker.row(7, 7, 'f'));
+        Check.answers("three count", 3, () -> x.read(10));
+        Maker.counts("98", x, 98, 1, 1, 1);
+        Maker.counts("99", x, 99, 1, 2, 2);
+        Maker.counts("0", x, 0, 1, 6, 6);
+        Maker.nothingCounts("1", x, 1);
+        Maker.told("above the last", x);
+    }
+
+    private static void firstRowOfAnObject() {
+        CrossTables x = read("7 1\n" + Maker.row(1, 1, 'f') + "6 2\n" + Maker.row(2, 2, 'f') + Maker.row(3, 3, 'n'));
+        Maker.counts("the first one", x, 7, 1, 1, 1);
+        Maker.counts("6", x, 6, 1, 2, 2);
+        Maker.revisions("once", x, 7, 0);
+        Check.answers("two count", 2, () -> x.read(10));
+    }
+}
