@@ -15,7 +15,7 @@ public final class CrossTables {
     private static final int MOST_RUNS = 6;
     private static final int MOST_HEADS = 60;
     private static final int MOST_TOLD = 200;
-    private static final int MOST_DUE = 100;
+    private static final int MOST_ROWS = 100;
     private static final int MOST_DIGITS = 10;
     private static final int MOST_WIDTH = 4;
     private static final int OBJECTS = 100;
@@ -46,18 +46,14 @@ public final class CrossTables {
     private int sectionCount;
     private final Heads heads;
     private final Reading reading;
-    private final Findings findings;
     private final TableReader tableReader;
-    private final StreamReader streamReader;
 
     public CrossTables() {
         sections = new Section[MOST_SECTIONS];
         sectionCount = 0;
         heads = new Heads();
         reading = new Reading();
-        findings = new Findings();
-        tableReader = new TableReader(reading, findings);
-        streamReader = new StreamReader(reading, findings);
+        tableReader = new TableReader();
     }
 
     public int section(int kind, long place, long before)
@@ -93,6 +89,7 @@ public final class CrossTables {
     public byte octet(int section, int i) throws NoSuchElementException, ArrayIndexOutOfBoundsException {
         Section asked = existing(section);
         if (i < 0 || i >= asked.byteCount) {
+            // The document names this class for octet alone, though rule 6 of LANGUAGE.md does not list it.
             throw new ArrayIndexOutOfBoundsException("the section has no such byte");
         }
         return asked.bytes[i];
@@ -122,7 +119,7 @@ public final class CrossTables {
     public int run(int section, int first, int many)
             throws NoSuchElementException, IllegalArgumentException, UnsupportedOperationException {
         Section stream = existing(section);
-        if (stream.kind != STREAM || first < 0 || first > LAST_RUN_FIRST || many < 1 || many > MOST_DUE) {
+        if (stream.kind != STREAM || first < 0 || first > LAST_RUN_FIRST || many < 1 || many > MOST_ROWS) {
             throw new IllegalArgumentException("no stream, or first or many is out of range");
         }
         if (stream.runCount >= MOST_RUNS) {
@@ -159,7 +156,6 @@ public final class CrossTables {
 
     public int read(long start) {
         reading.clear();
-        findings.clear();
         int first = numberAt(start);
         if (first == NONE) {
             return NONE;
@@ -195,6 +191,7 @@ public final class CrossTables {
     }
 
     public long told(int i, int what) throws IndexOutOfBoundsException {
+        Findings findings = reading.findings;
         if (i == COUNT) {
             return findings.count;
         }
@@ -301,11 +298,11 @@ public final class CrossTables {
         }
         int number = numberAt(place);
         if (number == NONE || (streamsOnly && sections[number].kind != STREAM)) {
-            findings.keep(TOLD_NOWHERE, from, place);
+            reading.findings.keep(TOLD_NOWHERE, from, place);
             return NONE;
         }
         if (reading.chainHas(number)) {
-            findings.keep(TOLD_RING, from, place);
+            reading.findings.keep(TOLD_RING, from, place);
             return NONE;
         }
         return number;
@@ -314,10 +311,47 @@ public final class CrossTables {
     private void readRows(int number) {
         Section section = sections[number];
         if (section.kind == TABLE) {
-            tableReader.readTable(section, number);
+            tableReader.readTable(section, number, reading);
         } else {
-            streamReader.readStream(section, number);
+            readStream(section, number);
         }
+    }
+
+    private void readStream(Section stream, int number) {
+        int width = stream.rowWidth();
+        int rows = 0;
+        for (int run = 0; run < stream.runCount; run++) {
+            for (int i = 0; i < stream.runLengths[run]; i++) {
+                int from = rows * width;
+                if (stream.byteCount - from < width) {
+                    reading.findings.keep(TOLD_ROW_PAST, number, rows);
+                    return;
+                }
+                readStreamRow(stream, stream.runFirsts[run] + i, from);
+                rows++;
+            }
+        }
+    }
+
+    private void readStreamRow(Section stream, int object, int from) {
+        int placeFrom = from + stream.kindWidth;
+        int generationFrom = placeFrom + stream.placeWidth;
+        int kind = stream.kindWidth == 0 ? USED : kindOfNumber(stream.numberOfBytes(from, stream.kindWidth));
+        if (kind != NOTHING) {
+            long place = stream.numberOfBytes(placeFrom, stream.placeWidth);
+            long generation = stream.numberOfBytes(generationFrom, stream.generationWidth);
+            reading.tell(object, kind, place, generation);
+        }
+    }
+
+    private static int kindOfNumber(long number) {
+        if (number == 0) {
+            return FREE;
+        }
+        if (number == 1) {
+            return USED;
+        }
+        return number == 2 ? WITHIN : NOTHING;
     }
 
     private void judgeObjects() {
@@ -333,7 +367,7 @@ public final class CrossTables {
     private void judgeFree(int object) {
         long place = heads.leastPlaceOf(object);
         if (object != 0 && place != NONE) {
-            findings.keep(TOLD_FREE_WITH_HEAD, object, place);
+            reading.findings.keep(TOLD_FREE_WITH_HEAD, object, place);
         }
     }
 
@@ -341,7 +375,7 @@ public final class CrossTables {
         long place = reading.places[object];
         if (!heads.hasHead(place, object, reading.generations[object])) {
             reading.kinds[object] = WRONG;
-            findings.keep(TOLD_WRONG_OBJECT, object, place);
+            reading.findings.keep(TOLD_WRONG_OBJECT, object, place);
         }
     }
 
@@ -476,7 +510,7 @@ public final class CrossTables {
         }
     }
 
-    /** The chain of the latest reading, and what it says of each object. */
+    /** The chain of the latest reading, and what it tells. */
     private static final class Reading {
         private final int[] chain;
         private int chainLength;
@@ -488,6 +522,7 @@ public final class CrossTables {
         private int counted;
         private final int[] freeObjects;
         private int freeCount;
+        private final Findings findings;
 
         private Reading() {
             chain = new int[MOST_SECTIONS];
@@ -499,6 +534,7 @@ public final class CrossTables {
             counted = 0;
             freeObjects = new int[OBJECTS];
             freeCount = 0;
+            findings = new Findings();
         }
 
         private void clear() {
@@ -507,6 +543,7 @@ public final class CrossTables {
             Arrays.fill(tellers, 0);
             counted = 0;
             freeCount = 0;
+            findings.clear();
         }
 
         private void enter(int number) {
@@ -653,120 +690,68 @@ public final class CrossTables {
 
     /** Reads the rows of a table: beginnings, and the rows that are due behind each. */
     private static final class TableReader {
-        private final Reading reading;
-        private final Findings findings;
         private final Tokens tokens;
         private long turn;
         private long due;
 
-        private TableReader(Reading reading, Findings findings) {
-            this.reading = reading;
-            this.findings = findings;
+        private TableReader() {
             tokens = new Tokens();
             turn = 0;
             due = 0;
         }
 
         /** Each part takes two tokens at least, or is the last, so the tokens bound the parts. */
-        private void readTable(Section table, int number) {
+        private void readTable(Section table, int number, Reading reading) {
             tokens.split(table);
             turn = 0;
             due = 0;
             int token = 0;
             for (int parts = 0; parts <= MOST_TOKENS; parts++) {
-                if (token == NONE || (token >= tokens.count && due == 0)) {
+                if (token >= tokens.count && due == 0) {
                     return;
                 }
-                token = readPart(table, number, token);
+                int wrong = wrongToken(table, token);
+                if (wrong != NONE) {
+                    reading.findings.keep(TOLD_WRONG_TABLE, number, tokens.beginOf(wrong));
+                    return;
+                }
+                token = readPart(table, number, token, reading);
             }
         }
 
-        /** The token behind this part, NONE when something is wrong in it. */
-        private int readPart(Section table, int number, int first) {
-            long firstNumber = tokens.numberOf(table, first);
-            if (firstNumber == NONE) {
-                return tellWrong(number, tokens.beginOf(first));
-            }
+        /** The token at which this part is told as wrong, NONE when it is a row or a beginning that may come. */
+        private int wrongToken(Section table, int first) {
             int second = first + 1;
+            if (tokens.numberOf(table, first) == NONE) {
+                return first;
+            }
             long secondNumber = tokens.numberOf(table, second);
             if (secondNumber == NONE) {
-                return tellWrong(number, tokens.beginOf(second));
+                return second;
             }
-            int third = second + 1;
-            int kind = tokens.kindOf(table, third);
-            boolean isRow = kind != NOTHING;
-            if (isRow ? due == 0 : due > 0 || secondNumber > MOST_DUE) {
-                return tellWrong(number, tokens.beginOf(first));
-            }
-            if (!isRow) {
+            boolean isRow = tokens.kindOf(table, second + 1) != NOTHING;
+            boolean mayCome = isRow ? due > 0 : due == 0 && secondNumber <= MOST_ROWS;
+            return mayCome ? NONE : first;
+        }
+
+        /** Answers the token behind a part in which nothing is wrong. */
+        private int readPart(Section table, int number, int first, Reading reading) {
+            long firstNumber = tokens.numberOf(table, first);
+            long secondNumber = tokens.numberOf(table, first + 1);
+            int kind = tokens.kindOf(table, first + 2);
+            if (kind == NOTHING) {
                 turn = firstNumber;
                 due = secondNumber;
-                return third;
+                return first + 2;
             }
             reading.tell(turn, kind, firstNumber, secondNumber);
             turn++;
             due--;
-            int next = third + 1;
-            tellIfOdd(number, tokens.beginOf(first), tokens.beginOf(next));
-            return next;
-        }
-
-        private void tellIfOdd(int number, int begin, int nextBegin) {
-            if (nextBegin - begin != TABLE_ROW_BYTES) {
-                findings.keep(TOLD_ODD_ROW, number, begin);
+            int begin = tokens.beginOf(first);
+            if (tokens.beginOf(first + 3) - begin != TABLE_ROW_BYTES) {
+                reading.findings.keep(TOLD_ODD_ROW, number, begin);
             }
-        }
-
-        private int tellWrong(int number, int at) {
-            findings.keep(TOLD_WRONG_TABLE, number, at);
-            return NONE;
-        }
-    }
-
-    /** Reads the rows of a stream, run by run. */
-    private static final class StreamReader {
-        private final Reading reading;
-        private final Findings findings;
-
-        private StreamReader(Reading reading, Findings findings) {
-            this.reading = reading;
-            this.findings = findings;
-        }
-
-        private void readStream(Section stream, int number) {
-            int rows = 0;
-            for (int run = 0; run < stream.runCount; run++) {
-                for (int i = 0; i < stream.runLengths[run]; i++) {
-                    int from = rows * stream.rowWidth();
-                    if (stream.byteCount - from < stream.rowWidth()) {
-                        findings.keep(TOLD_ROW_PAST, number, rows);
-                        return;
-                    }
-                    readRow(stream, stream.runFirsts[run] + i, from);
-                    rows++;
-                }
-            }
-        }
-
-        private void readRow(Section stream, int object, int from) {
-            int placeFrom = from + stream.kindWidth;
-            int generationFrom = placeFrom + stream.placeWidth;
-            int kind = stream.kindWidth == 0 ? USED : kindOf(stream.numberOfBytes(from, stream.kindWidth));
-            if (kind != NOTHING) {
-                long place = stream.numberOfBytes(placeFrom, stream.placeWidth);
-                long generation = stream.numberOfBytes(generationFrom, stream.generationWidth);
-                reading.tell(object, kind, place, generation);
-            }
-        }
-
-        private static int kindOf(long number) {
-            if (number == 0) {
-                return FREE;
-            }
-            if (number == 1) {
-                return USED;
-            }
-            return number == 2 ? WITHIN : NOTHING;
+            return first + 3;
         }
     }
 }

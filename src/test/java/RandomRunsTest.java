@@ -49,7 +49,7 @@ public final class RandomRunsTest {
         try {
             return Long.toString(call.answer());
         } catch (RuntimeException e) {
-            return e.getClass().getName();
+            return Check.isOfMachine(e) ? e.toString() : e.getClass().getName();
         }
     }
 

@@ -5,6 +5,7 @@ public final class StreamRowsTest {
         wideNumbers();
         numbersWithoutBytes();
         runsInTheirOrder();
+        sixRuns();
         rowsPast();
         objectsAboveTheLast();
         rowsThatTellNothing();
@@ -87,6 +88,17 @@ public final class StreamRowsTest {
         x.add(s, (byte) 9);
         x.read(10);
         Maker.told("one byte more is nothing", x, 7, 5, 3, 7, 20, 1, 7, 21, 2, 7, 22, 6, 7, 99, 7);
+    }
+
+    private static void sixRuns() {
+        CrossTables x = new CrossTables();
+        int s = Maker.stream(x, 10, -1, 1, 2, 3, 4, 5, 6);
+        x.widths(s, 0, 1, 0);
+        for (int i = 0; i < 6; i++) {
+            x.run(s, 10 * i, 1);
+        }
+        Check.answers("six runs", 6, () -> x.read(10));
+        Maker.counts("the sixth run", x, 50, 4, 6, 0);
     }
 
     private static void rowsPast() {

@@ -10,6 +10,8 @@ public final class TableRowsTest {
         oddRows();
         objectsAboveTheLast();
         firstRowOfAnObject();
+        mostTokens();
+        nothingIsLeftOfAnotherTable();
         Check.end();
     }
 
@@ -149,5 +151,21 @@ public final class TableRowsTest {
         Maker.counts("6", x, 6, 1, 2, 2);
         Maker.revisions("once", x, 7, 0);
         Check.answers("two count", 2, () -> x.read(10));
+    }
+
+    private static void mostTokens() {
+        Maker.told("150 tokens", read("0 ".repeat(150)));
+        Maker.told("150 tokens, the last one wrong", read("0 ".repeat(149) + "x "), 4, 0, 298);
+        CrossTables x = read("9 1 0 7 f ".replace("9", "0 ".repeat(144) + "9"));
+        Maker.counts("in the last tokens", x, 9, 1, 0, 7);
+    }
+
+    /** The first table's eighth token stands where the second, of seven, has an n. */
+    private static void nothingIsLeftOfAnotherTable() {
+        CrossTables x = new CrossTables();
+        Maker.table(x, 10, -1, "0000000000 0000000001 0 0 n 5 0");
+        Maker.table(x, 20, 10, "0 0 0 0 0 0 0             0 0 0");
+        x.read(20);
+        Maker.told("two tables", x, 3, 0, 22, 7, 0, 0);
     }
 }

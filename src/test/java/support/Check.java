@@ -27,16 +27,20 @@ final class Check {
         }
     }
 
-    /** The very class is due: a subclass, as the machine throws them, is none. */
+    /** The very class is due, and thrown by the class itself: the machine's own words give it away. */
     static void refuses(String what, Class<? extends RuntimeException> want, Call call) {
         made++;
         try {
             complain(what + " answered " + call.answer() + ", due is " + want.getName());
         } catch (RuntimeException e) {
-            if (e.getClass() != want) {
+            if (e.getClass() != want || isOfMachine(e)) {
                 complain(what + " threw " + e + ", due is " + want.getName());
             }
         }
+    }
+
+    static boolean isOfMachine(RuntimeException e) {
+        return e.getMessage() != null && e.getMessage().contains("out of bounds for length");
     }
 
     static void complain(String text) {
