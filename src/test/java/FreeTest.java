@@ -9,30 +9,23 @@ public final class FreeTest {
         Check.end();
     }
 
-    private static CrossTables read(String text) {
-        CrossTables x = new CrossTables();
-        Maker.table(x, 10, -1, text);
-        x.read(10);
-        return x;
-    }
-
     private static void lists() {
-        CrossTables x = read("0 5\n" + Maker.row(3, 0, 'f') + Maker.row(4, 0, 'f') + Maker.row(0, 0, 'f')
+        CrossTables x = Maker.readTable("0 5\n" + Maker.row(3, 0, 'f') + Maker.row(4, 0, 'f') + Maker.row(0, 0, 'f')
                 + Maker.row(1, 0, 'f') + Maker.row(0, 0, 'f'));
         Maker.frees("by the one before", x, 3, 1, 4);
         x.read(11);
         Maker.frees("no reading", x);
-        Maker.frees("none", read("0 2\n" + Maker.row(0, 0, 'f') + Maker.row(0, 0, 'f')));
+        Maker.frees("none", Maker.readTable("0 2\n" + Maker.row(0, 0, 'f') + Maker.row(0, 0, 'f')));
     }
 
     private static void noneUnlessTheFirstIsFree() {
-        CrossTables x = read("0 2\n" + Maker.row(1, 0, 'n') + Maker.row(0, 0, 'f'));
+        CrossTables x = Maker.readTable("0 2\n" + Maker.row(1, 0, 'n') + Maker.row(0, 0, 'f'));
         Maker.frees("0 is wrong", x);
         x.head(1, 0, 0);
         x.read(10);
         Maker.counts("0 is used", x, 0, 2, 1, 0);
         Maker.frees("0 is used", x);
-        Maker.frees("nothing counts for 0", read("1 1\n" + Maker.row(0, 0, 'f')));
+        Maker.frees("nothing counts for 0", Maker.readTable("1 1\n" + Maker.row(0, 0, 'f')));
         CrossTables y = new CrossTables();
         int s = Maker.stream(y, 10, -1, 2, 0, 1, 0, 0, 0, 0, 0);
         y.run(s, 0, 2);
@@ -41,16 +34,16 @@ public final class FreeTest {
     }
 
     private static void ends() {
-        Maker.frees("itself", read("0 2\n" + Maker.row(1, 0, 'f') + Maker.row(1, 0, 'f')), 1);
-        Maker.frees("one that came", read("0 4\n" + Maker.row(1, 0, 'f') + Maker.row(2, 0, 'f')
+        Maker.frees("itself", Maker.readTable("0 2\n" + Maker.row(1, 0, 'f') + Maker.row(1, 0, 'f')), 1);
+        Maker.frees("one that came", Maker.readTable("0 4\n" + Maker.row(1, 0, 'f') + Maker.row(2, 0, 'f')
                 + Maker.row(3, 0, 'f') + Maker.row(2, 0, 'f')), 1, 2, 3);
-        Maker.frees("one that is used", read("0 3\n" + Maker.row(1, 0, 'f') + Maker.row(2, 0, 'f')
+        Maker.frees("one that is used", Maker.readTable("0 3\n" + Maker.row(1, 0, 'f') + Maker.row(2, 0, 'f')
                 + Maker.row(0, 0, 'n')), 1);
-        Maker.frees("one of which nothing counts", read("0 2\n" + Maker.row(1, 0, 'f') + Maker.row(5, 0, 'f')), 1);
-        Maker.frees("above the last", read("0 2\n" + Maker.row(1, 0, 'f') + Maker.row(100, 0, 'f')), 1);
-        Maker.frees("far above", read("0 2\n" + Maker.row(4294967297L, 0, 'f') + Maker.row(0, 0, 'f')));
-        Maker.frees("the last place", read("0 2\n" + Maker.row(1, 0, 'f') + Maker.row(9999999999L, 0, 'f')), 1);
-        Maker.frees("the last object", read("0 1\n" + Maker.row(99, 0, 'f') + "99 1\n" + Maker.row(0, 0, 'f')), 99);
+        Maker.frees("one of which nothing counts", Maker.readTable("0 2\n" + Maker.row(1, 0, 'f') + Maker.row(5, 0, 'f')), 1);
+        Maker.frees("above the last", Maker.readTable("0 2\n" + Maker.row(1, 0, 'f') + Maker.row(100, 0, 'f')), 1);
+        Maker.frees("far above", Maker.readTable("0 2\n" + Maker.row(4294967297L, 0, 'f') + Maker.row(0, 0, 'f')));
+        Maker.frees("the last place", Maker.readTable("0 2\n" + Maker.row(1, 0, 'f') + Maker.row(9999999999L, 0, 'f')), 1);
+        Maker.frees("the last object", Maker.readTable("0 1\n" + Maker.row(99, 0, 'f') + "99 1\n" + Maker.row(0, 0, 'f')), 99);
     }
 
     private static void allOfThem() {
@@ -71,7 +64,7 @@ public final class FreeTest {
     }
 
     private static void wrongInputs() {
-        CrossTables x = read("0 2\n" + Maker.row(1, 0, 'f') + Maker.row(0, 0, 'f'));
+        CrossTables x = Maker.readTable("0 2\n" + Maker.row(1, 0, 'f') + Maker.row(0, 0, 'f'));
         Check.refuses("free(-2)", IndexOutOfBoundsException.class, () -> x.free(-2));
         Check.refuses("free(least)", IndexOutOfBoundsException.class, () -> x.free(Integer.MIN_VALUE));
         Check.answers("free(greatest)", -1, () -> x.free(Integer.MAX_VALUE));

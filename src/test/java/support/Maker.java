@@ -23,6 +23,14 @@ final class Maker {
         return section;
     }
 
+    /** A new object with one table, section 0 at place 10, that is read already. */
+    static CrossTables readTable(String text) {
+        CrossTables x = new CrossTables();
+        table(x, 10, -1, text);
+        x.read(10);
+        return x;
+    }
+
     /** A row of a table as it should stand, twenty bytes long. */
     static String row(long place, long generation, char mark) {
         return String.format("%010d %05d %c \n", place, generation, mark);
