@@ -1,171 +1,252 @@
-/** THE CHAIN, and promise 10: read. */
+/** THE CHAIN: what is gone along, what is NOWHERE and what is a RING. */
 public final class ChainTest {
     public static void main(String[] args) {
-        noSectionThere();
-        oneBeforeTheOther();
-        besideGoesOnNowhere();
-        ringsBefore();
-        ringsBeside();
-        nowhere();
-        orderOfWhatIsTold();
-        twelveInARow();
+        Check.sentence("THE CHAIN from a start: the SECTION with that PLACE", ChainTest::theStart);
+        Check.sentence("if it has one BESIDE, behind it that one", ChainTest::behindItThatBeside);
+        Check.sentence("then likewise what is BEFORE it, and so on", ChainTest::thenWhatIsBefore);
+        Check.sentence("(what is BESIDE goes on nowhere)", ChainTest::besideGoesOnNowhere);
+        Check.sentence("NOWHERE is a place BEFORE with no SECTION", ChainTest::nowhereBefore);
+        Check.sentence("NOWHERE is a place BESIDE with no SECTION", ChainTest::nowhereBeside);
+        Check.sentence("(BESIDE: no STREAM)", ChainTest::tableBeside);
+        Check.sentence("NOWHERE, and not a RING: a table BESIDE that is in THE CHAIN", ChainTest::tableOfTheChainBeside);
+        Check.sentence("a RING one BEFORE whose SECTION is in THE CHAIN already", ChainTest::ringsBefore);
+        Check.sentence("a RING one BESIDE whose SECTION is in THE CHAIN already", ChainTest::ringsBeside);
+        Check.sentence("a RING: what is BESIDE is BEFORE, too", ChainTest::besideIsBefore);
+        Check.sentence("both are TOLD, and not gone to: BEFORE, the chain ends", ChainTest::beforeEndsTheChain);
+        Check.sentence("both are TOLD, and not gone to: BESIDE, the chain goes on", ChainTest::besideEndsNothing);
+        Check.sentence("twelve sections in one chain", ChainTest::twelve);
+        Check.sentence("twelve sections in one ring", ChainTest::ringOfTwelve);
+        Check.sentence("twelve sections, six of them beside", ChainTest::sixBeside);
         Check.end();
     }
 
-    private static String uses(int object, int place) {
-        return object + " 1\n" + Maker.row(place, 0, 'n');
+    private static String frees(int object) {
+        return object + " 1\n" + Maker.row(0, 0, 'f');
     }
 
-    private static void noSectionThere() {
+    /** A stream with a row of one object that is free. */
+    private static int freeingStream(CrossTables x, long place, long before, int object) {
+        int stream = Maker.stream(x, place, before, 0, 0, 0, 0);
+        x.run(stream, object, 1);
+        return stream;
+    }
+
+    private static void theStart() {
         CrossTables x = new CrossTables();
-        int table = Maker.table(x, 10, 99, "0 2\n" + Maker.row(1, 0, 'f') + Maker.row(0, 0, 'f'));
-        x.key(table, 1, 1);
-        Check.answers("read(10)", 2, () -> x.read(10));
-        Maker.told("read(10)", x, 2, 0, 99);
-        Maker.frees("read(10)", x, 1);
-        for (long start : new long[] {9, -1, Maker.LAST + 1, Long.MIN_VALUE, Long.MAX_VALUE}) {
-            x.read(10);
-            Check.answers("read(" + start + ")", -1, () -> x.read(start));
-            Maker.told("no section", x);
-            Maker.frees("no section", x);
-            Maker.nothingCounts("no section", x, 0);
-            Maker.revisions("no section", x, 0);
-            Check.answers("no section: trailer(1)", -1, () -> x.trailer(1));
+        Maker.table(x, 10, -1, frees(1));
+        Maker.table(x, 20, 10, frees(2));
+        freeingStream(x, 30, -1, 3);
+        for (int i = 0; i < 3; i++) {
+            int start = 10 * (i + 1);
+            Check.answers("read(" + start + ")", i == 1 ? 2 : 1, () -> x.read(start));
+            Maker.revisions("read(" + start + ")", x, i + 1, i);
+            Maker.told("read(" + start + ")", x);
         }
     }
 
-    private static void oneBeforeTheOther() {
+    private static void behindItThatBeside() {
         CrossTables x = new CrossTables();
-        Maker.table(x, 10, -1, uses(1, 101) + "2 1\n" + Maker.row(102, 0, 'n'));
-        Maker.table(x, 20, 10, uses(1, 201));
-        Maker.table(x, 30, 20, uses(3, 301));
-        Check.answers("from the last", 3, () -> x.read(30));
-        Maker.counts("from the last", x, 1, 4, 201, 0);
-        Maker.counts("from the last", x, 2, 4, 102, 0);
-        Maker.revisions("from the last", x, 1, 1, 0);
-        Maker.revisions("from the last", x, 3, 2);
-        Maker.told("from the last", x, 7, 1, 201, 7, 2, 102, 7, 3, 301);
-        Check.answers("from the first", 2, () -> x.read(10));
-        Maker.counts("from the first", x, 1, 4, 101, 0);
-        Maker.nothingCounts("from the first", x, 3);
+        Maker.table(x, 10, -1, frees(1));
+        freeingStream(x, 20, -1, 1);
+        Maker.table(x, 30, 10, frees(1));
+        x.beside(2, 20);
+        x.read(30);
+        Maker.revisions("beside, then before", x, 1, 2, 1, 0);
+        x.read(10);
+        Maker.revisions("none beside", x, 1, 0);
+    }
+
+    private static void thenWhatIsBefore() {
+        CrossTables x = new CrossTables();
+        Maker.table(x, 10, -1, frees(1));
+        freeingStream(x, 20, 10, 1);
+        Maker.table(x, 30, 20, frees(1));
+        freeingStream(x, 40, 77, 1);
+        freeingStream(x, 50, 78, 1);
+        x.beside(0, 40);
+        x.beside(2, 50);
+        x.read(30);
+        Maker.revisions("likewise", x, 1, 2, 4, 1, 0, 3);
+        Maker.told("likewise", x);
+        x.read(20);
+        Maker.revisions("from a stream on", x, 1, 1, 0, 3);
     }
 
     private static void besideGoesOnNowhere() {
         CrossTables x = new CrossTables();
-        Maker.table(x, 10, -1, uses(1, 101));
-        int stream = Maker.stream(x, 20, 40, 1, 0, 22, 0, 1, 0, 23, 0);
-        x.run(stream, 1, 2);
-        int table = Maker.table(x, 30, 10, "");
-        Maker.table(x, 40, -1, uses(4, 401));
-        x.beside(table, 20);
-        x.head(22, 1, 0);
-        x.head(23, 2, 0);
-        Check.answers("a stream beside", 2, () -> x.read(30));
-        Maker.revisions("the stream comes first", x, 1, 1, 0);
-        Maker.counts("a stream beside", x, 2, 2, 23, 0);
-        Maker.nothingCounts("before what is beside", x, 4);
-        Maker.told("a stream beside", x);
+        Maker.table(x, 10, -1, frees(1));
+        freeingStream(x, 20, 10, 2);
+        Maker.table(x, 30, -1, frees(3));
+        x.beside(2, 20);
+        Check.answers("what is before it is not read", 2, () -> x.read(30));
+        Maker.nothingCounts("what is before it is not read", x, 1);
+        CrossTables y = new CrossTables();
+        freeingStream(y, 20, 77, 2);
+        Maker.table(y, 30, -1, frees(3));
+        y.beside(1, 20);
+        y.read(30);
+        Maker.told("nor told", y);
+        CrossTables z = new CrossTables();
+        freeingStream(z, 20, 30, 2);
+        Maker.table(z, 30, -1, frees(3));
+        z.beside(1, 20);
+        z.read(30);
+        Maker.told("nor is it a ring", z);
+    }
+
+    private static void nowhereBefore() {
+        for (long before : new long[] {0, 9, 11, 10 + (1L << 32), Maker.LAST}) {
+            for (int kind = 0; kind < 2; kind++) {
+                CrossTables x = new CrossTables();
+                x.section(kind, 10, before);
+                Check.answers("before " + before, 0, () -> x.read(10));
+                Maker.told("before " + before, x, 2, 0, before);
+            }
+        }
+    }
+
+    private static void nowhereBeside() {
+        for (long beside : new long[] {0, 9, 11, 20 + (1L << 32), Maker.LAST}) {
+            CrossTables x = new CrossTables();
+            x.section(0, 10, -1);
+            x.section(1, 20, -1);
+            x.beside(0, beside);
+            Check.answers("beside " + beside, 0, () -> x.read(10));
+            Maker.told("beside " + beside, x, 2, 0, beside);
+        }
+    }
+
+    private static void tableBeside() {
+        CrossTables x = new CrossTables();
+        Maker.table(x, 10, -1, frees(1));
+        Maker.table(x, 20, -1, frees(2));
+        x.beside(1, 10);
+        Check.answers("it is not read", 1, () -> x.read(20));
+        Maker.told("a table", x, 2, 1, 10);
+        Maker.nothingCounts("it is not read", x, 1);
+    }
+
+    private static void tableOfTheChainBeside() {
+        CrossTables x = new CrossTables();
+        Maker.table(x, 10, -1, frees(1));
+        Maker.table(x, 20, 10, frees(2));
+        x.beside(0, 20);
+        x.read(20);
+        Maker.told("the start", x, 2, 0, 20);
+        x.beside(0, 10);
+        x.read(10);
+        Maker.told("itself", x, 2, 0, 10);
     }
 
     private static void ringsBefore() {
         CrossTables x = new CrossTables();
-        Maker.table(x, 10, 10, "");
-        Check.answers("itself", 0, () -> x.read(10));
+        Maker.table(x, 10, 10, frees(1));
+        Check.answers("itself", 1, () -> x.read(10));
         Maker.told("itself", x, 1, 0, 10);
 
         CrossTables y = new CrossTables();
         Maker.table(y, 10, 30, "");
         Maker.stream(y, 20, 10);
         Maker.table(y, 30, 20, "");
+        Maker.table(y, 40, 20, "");
         y.read(20);
-        Maker.told("three in a ring", y, 1, 2, 20);
-
-        CrossTables z = new CrossTables();
-        int table = Maker.table(z, 10, 20, "");
-        Maker.stream(z, 20, -1);
-        z.beside(table, 20);
-        z.read(10);
-        Maker.told("what is beside is also before", z, 1, 0, 20);
+        Maker.told("the start", y, 1, 2, 20);
+        y.read(30);
+        Maker.told("another start", y, 1, 0, 30);
+        y.read(40);
+        Maker.told("not the start", y, 1, 2, 20);
     }
 
     private static void ringsBeside() {
         CrossTables x = new CrossTables();
-        int table = Maker.table(x, 10, -1, uses(5, 50));
-        Maker.stream(x, 20, 10);
-        x.beside(table, 20);
-        x.head(50, 5, 0);
-        Check.answers("the start is beside", 1, () -> x.read(20));
-        Maker.told("the start is beside", x, 1, 0, 20);
+        Maker.table(x, 10, -1, frees(5));
+        freeingStream(x, 20, 10, 6);
+        x.beside(0, 20);
+        Check.answers("the start", 2, () -> x.read(20));
+        Maker.told("the start", x, 1, 0, 20);
+        Maker.revisions("read once", x, 6, 1);
+        x.read(10);
+        Maker.told("not from there", x);
 
         CrossTables y = new CrossTables();
-        int old = Maker.table(y, 10, -1, "");
-        Maker.stream(y, 20, -1);
-        int newer = Maker.table(y, 30, 10, "");
-        y.beside(old, 20);
-        y.beside(newer, 20);
+        Maker.table(y, 10, -1, "");
+        freeingStream(y, 20, -1, 6);
+        Maker.table(y, 30, 10, "");
+        y.beside(0, 20);
+        y.beside(2, 20);
         y.read(30);
-        Maker.told("beside two", y, 1, 0, 20);
-        y.read(10);
-        Maker.told("beside one", y);
+        Maker.told("beside a newer one", y, 1, 0, 20);
+        Maker.revisions("read once", y, 6, 1);
     }
 
-    private static void nowhere() {
+    private static void besideIsBefore() {
         CrossTables x = new CrossTables();
-        int table = Maker.table(x, 10, 11, "");
-        int older = Maker.table(x, 20, -1, "");
-        x.beside(table, 12);
-        x.read(10);
-        Maker.told("no section", x, 2, 0, 12, 2, 0, 11);
-        x.beside(table, 20);
-        x.read(10);
-        Maker.told("a table beside", x, 2, 0, 20, 2, 0, 11);
-        x.beside(table, 10);
-        x.read(10);
-        Maker.told("itself beside is no stream", x, 2, 0, 10, 2, 0, 11);
-        x.beside(older, 0);
-        x.read(20);
-        Maker.told("place 0 is a place", x, 2, 1, 0);
+        Maker.table(x, 10, 20, "");
+        freeingStream(x, 20, 30, 6);
+        Maker.table(x, 30, -1, frees(7));
+        x.beside(0, 20);
+        Check.answers("its section is in the chain", 1, () -> x.read(10));
+        Maker.told("its section is in the chain", x, 1, 0, 20);
+        Maker.nothingCounts("it is not gone to", x, 7);
     }
 
-    /** Beside, then the rows, then the rows of the one beside, and before at last. */
-    private static void orderOfWhatIsTold() {
+    private static void beforeEndsTheChain() {
         CrossTables x = new CrossTables();
-        int old = Maker.table(x, 10, 30, "1 1 1");
-        int stream = Maker.stream(x, 20, 77, 1);
-        int newer = Maker.table(x, 30, 10, "0 1 0 0 n x");
-        x.run(stream, 50, 1);
-        x.beside(newer, 20);
-        x.beside(old, 20);
-        x.read(30);
-        Maker.told("newer and older", x,
-                3, 2, 4, 4, 2, 10, 5, 1, 0,
-                1, 0, 20, 4, 0, 5, 1, 0, 30,
-                7, 0, 0);
-        x.beside(old, 21);
-        x.read(10);
-        Maker.told("from the older one", x,
-                2, 0, 21, 4, 0, 5,
-                3, 2, 4, 4, 2, 10, 5, 1, 0, 1, 2, 10,
-                7, 0, 0);
-        x.beside(newer, -1);
-        x.beside(old, 20);
-        x.read(10);
-        Maker.told("one beside the older one", x,
-                4, 0, 5, 5, 1, 0,
-                3, 2, 4, 4, 2, 10, 1, 2, 10,
-                7, 0, 0);
+        Maker.table(x, 10, 20, frees(1));
+        Maker.table(x, 20, 10, frees(1));
+        Check.answers("a ring", 1, () -> x.read(10));
+        Maker.revisions("each once", x, 1, 0, 1);
+        Check.answers("told once", 1, () -> x.told(-1, 0));
     }
 
-    private static void twelveInARow() {
+    private static void besideEndsNothing() {
+        CrossTables x = new CrossTables();
+        Maker.table(x, 10, -1, frees(1));
+        Maker.table(x, 20, 10, frees(2));
+        freeingStream(x, 30, 20, 3);
+        x.beside(1, 99);
+        Check.answers("nowhere", 2, () -> x.read(20));
+        Maker.told("nowhere", x, 2, 1, 99);
+        x.beside(1, 30);
+        Check.answers("a ring", 3, () -> x.read(30));
+        Maker.told("a ring", x, 1, 1, 30);
+        x.beside(1, 10);
+        Check.answers("a table", 2, () -> x.read(20));
+        Maker.told("a table", x, 2, 1, 10);
+        Maker.revisions("the table is gone to as what is before", x, 1, 0);
+    }
+
+    private static void twelve() {
         CrossTables x = new CrossTables();
         for (int i = 0; i < 12; i++) {
-            Maker.table(x, i, (i + 1) % 12, uses(i, i) + "99 1\n" + Maker.row(0, 0, 'f'));
+            Maker.table(x, i, i == 11 ? -1 : i + 1, frees(9));
         }
-        Check.answers("twelve", 13, () -> x.read(5));
-        Maker.revisions("twelve", x, 99, 5, 6, 7, 8, 9, 10, 11, 0, 1, 2, 3, 4);
-        Check.answers("told", 13, () -> x.told(-1, 9));
-        Check.answers("the ring", 1, () -> x.told(0, 0));
-        Check.answers("whose it is", 4, () -> x.told(0, 1));
-        Check.answers("its place", 5, () -> x.told(0, 2));
+        Check.answers("read(0)", 1, () -> x.read(0));
+        Maker.revisions("from the first", x, 9, 0, 1, 2, 3, 4, 5, 6, 7, 8, 9, 10, 11);
+        Maker.told("from the first", x);
+        x.read(11);
+        Maker.revisions("from the last", x, 9, 11);
+    }
+
+    private static void ringOfTwelve() {
+        CrossTables x = new CrossTables();
+        for (int i = 0; i < 12; i++) {
+            Maker.table(x, i, (i + 1) % 12, frees(9));
+        }
+        x.read(5);
+        Maker.revisions("from the sixth", x, 9, 5, 6, 7, 8, 9, 10, 11, 0, 1, 2, 3, 4);
+        Maker.told("from the sixth", x, 1, 4, 5);
+    }
+
+    private static void sixBeside() {
+        CrossTables x = new CrossTables();
+        for (int i = 0; i < 6; i++) {
+            Maker.table(x, i, i == 5 ? -1 : i + 1, frees(9));
+            freeingStream(x, 100 + i, -1, 9);
+            x.beside(2 * i, 100 + i);
+        }
+        x.read(0);
+        Maker.revisions("tables and streams", x, 9, 0, 1, 2, 3, 4, 5, 6, 7, 8, 9, 10, 11);
+        Maker.told("tables and streams", x);
     }
 }

@@ -29,32 +29,46 @@ public final class FaceTest {
     };
 
     public static void main(String[] args) {
+        Check.sentence("public methods, with what they throw", FaceTest::methods);
+        Check.sentence("No private method bears the name of a public one", FaceTest::privateNames);
+        Check.sentence("no other member that is not private", FaceTest::otherMembers);
+        Check.end();
+    }
+
+    private static void methods() {
         List<String> want = new ArrayList<>(Arrays.asList(FACE));
         List<String> got = new ArrayList<>();
-        List<String> names = new ArrayList<>();
         for (Method method : CrossTables.class.getDeclaredMethods()) {
             if (!Modifier.isPrivate(method.getModifiers())) {
                 got.add(describe(method));
-                names.add(method.getName());
             }
         }
         Collections.sort(want);
         Collections.sort(got);
-        same("methods", want.toString(), got.toString());
+        Check.same("the face", want.toString(), got.toString());
+    }
+
+    private static void privateNames() {
         for (Method method : CrossTables.class.getDeclaredMethods()) {
             boolean hidden = Modifier.isPrivate(method.getModifiers());
-            same("a private " + method.getName(), "false", "" + (hidden && names.contains(method.getName())));
+            boolean named = false;
+            for (String line : FACE) {
+                named |= line.contains(" " + method.getName() + "(");
+            }
+            Check.same("a private " + method.getName(), "false", "" + (hidden && named));
         }
+    }
+
+    private static void otherMembers() {
         for (Field field : CrossTables.class.getDeclaredFields()) {
-            same(field.getName(), "true", "" + Modifier.isPrivate(field.getModifiers()));
+            Check.same(field.getName() + " is private", "true", "" + Modifier.isPrivate(field.getModifiers()));
         }
         Constructor<?>[] constructors = CrossTables.class.getDeclaredConstructors();
-        same("constructors", "[public CrossTables()]", Arrays.toString(constructors));
-        same("the class", "public final", Modifier.toString(CrossTables.class.getModifiers()));
+        Check.same("constructors", "[public CrossTables()]", Arrays.toString(constructors));
+        Check.same("the class", "public final", Modifier.toString(CrossTables.class.getModifiers()));
         for (Class<?> inside : CrossTables.class.getDeclaredClasses()) {
-            same(inside.getName(), "private static final", Modifier.toString(inside.getModifiers()));
+            Check.same(inside.getName(), "private static final", Modifier.toString(inside.getModifiers()));
         }
-        Check.end();
     }
 
     private static String describe(Method method) {
@@ -69,12 +83,5 @@ public final class FaceTest {
             text.append(' ').append(type.getSimpleName());
         }
         return text.toString();
-    }
-
-    private static void same(String what, String want, String got) {
-        Check.due(what, 1, want.equals(got) ? 1 : 0);
-        if (!want.equals(got)) {
-            System.out.println("  due is " + want + ", it is " + got);
-        }
     }
 }

@@ -24,10 +24,14 @@ public final class RandomRunsTest {
     }
 
     public static void main(String[] args) {
+        Check.sentence("the whole document", RandomRunsTest::allRuns);
+        Check.end();
+    }
+
+    private static void allRuns() {
         for (int run = 0; run < RUNS; run++) {
             new RandomRunsTest(run).go();
         }
-        Check.end();
     }
 
     private void go() {
@@ -45,23 +49,9 @@ public final class RandomRunsTest {
         }
     }
 
-    private static String outcome(Check.Call call) {
-        try {
-            return Long.toString(call.answer());
-        } catch (RuntimeException e) {
-            return Check.isOfMachine(e) ? e.toString() : e.getClass().getName();
-        }
-    }
-
     private void both(String what, Check.Call one, Check.Call other) {
         calls++;
-        String got = outcome(one);
-        String want = outcome(other);
-        boolean alike = got.equals(want);
-        Check.due("run " + run + ", call " + calls, 1, alike ? 1 : 0);
-        if (!alike) {
-            System.out.println("  " + what + " answered " + got + ", the model " + want);
-        }
+        Check.same("run " + run + ", call " + calls + ", " + what, Check.outcome(other), Check.outcome(one));
     }
 
     private boolean wrong() {

@@ -1,155 +1,246 @@
-/** What a TABLE's bytes tell: tokens, numbers, rows, beginnings, odd rows, and what is wrong. */
+/** Of the terms: the ROWS and BEGINNINGS of a TABLE, what is wrong in it, and ODD ROWS. */
 public final class TableRowsTest {
+    private static final String GOOD = "0000000001 00000 f \n";
+
     public static void main(String[] args) {
-        blanks();
-        numbers();
-        beginnings();
-        wrongTokens();
-        wrongRowsAndBeginnings();
-        wrongEnds();
-        oddRows();
-        objectsAboveTheLast();
-        firstRowOfAnObject();
-        mostTokens();
-        nothingIsLeftOfAnotherTable();
+        Check.sentence("a ROW: a place (f: the next free object) and a GENERATION", TableRowsTest::rows);
+        Check.sentence("n of one that is USED, f of one that is FREE", TableRowsTest::usedAndFree);
+        Check.sentence("of the object whose turn it is", TableRowsTest::turns);
+        Check.sentence("Two others are a BEGINNING: how many ROWS are due", TableRowsTest::due);
+        Check.sentence("a BEGINNING: none are due", TableRowsTest::noneDue);
+        Check.sentence("(at most 100)", TableRowsTest::hundredDue);
+        Check.sentence("Wrong is a TOKEN that is no NUMBER where one must stand: of a BEGINNING", TableRowsTest::noNumberOfBeginning);
+        Check.sentence("Wrong is a TOKEN that is no NUMBER where one must stand: of a ROW", TableRowsTest::noNumberOfRow);
+        Check.sentence("or (its first NUMBER) a ROW when none is due", TableRowsTest::rowWhenNoneIsDue);
+        Check.sentence("a BEGINNING when one is", TableRowsTest::beginningWhenOneIsDue);
+        Check.sentence("or with more than 100 due", TableRowsTest::moreThanHundred);
+        Check.sentence("or the end when a NUMBER must come", TableRowsTest::endForNumber);
+        Check.sentence("or the end when a ROW must come", TableRowsTest::endForRow);
+        Check.sentence("the end when nothing must come is not wrong", TableRowsTest::goodEnd);
+        Check.sentence("nothing behind is read", TableRowsTest::nothingBehind);
+        Check.sentence("what is before is read", TableRowsTest::whatIsBefore);
+        Check.sentence("ODD if the next TOKEN is not 20 bytes behind its first one's beginning", TableRowsTest::oddByNextToken);
+        Check.sentence("ODD if the end is not 20 bytes behind its first one's beginning", TableRowsTest::oddByEnd);
+        Check.sentence("ODD: what stands inside the 20 bytes is free", TableRowsTest::insideIsFree);
+        Check.sentence("ODD: the row counts all the same, and one that is wrong is not ODD", TableRowsTest::oddAndWrong);
+        Check.sentence("ROWS of objects above 99 are ODD, too", TableRowsTest::oddAboveTheLast);
+        Check.sentence("one table after the other", TableRowsTest::nothingIsLeftOfAnotherTable);
         Check.end();
     }
 
-    private static void blanks() {
-        for (char blank : new char[] {0, 9, 10, 12, 13, 32}) {
-            CrossTables x = Maker.readTable("7 1 5 6 f".replace(' ', blank));
-            Maker.counts("blank " + (int) blank, x, 7, 1, 5, 6);
-            Maker.told("blank " + (int) blank, x, 3, 0, 4);
-        }
-        for (char other : new char[] {1, 8, 11, 14, 31, 33, 47, 58, 127, 128, 160, 255, 266 - 256 + 128}) {
-            CrossTables x = Maker.readTable("7" + other + "1 5 6 f");
-            Maker.nothingCounts("no blank " + (int) other, x, 7);
-            Maker.told("no blank " + (int) other, x, 4, 0, 0);
-        }
-        Maker.told("no bytes", Maker.readTable(""));
-        Maker.told("blanks only", Maker.readTable(" \n\t\r\f\0"));
-        Maker.told("blanks before", Maker.readTable("  \n 0 0"));
-        Maker.told("blanks before what is wrong", Maker.readTable("  \n x"), 4, 0, 4);
+    private static void rows() {
+        CrossTables x = Maker.readTable("3 2\n" + Maker.row(Maker.LAST, 65535, 'f') + Maker.row(17, 0, 'n'));
+        Maker.counts("f", x, 3, 1, Maker.LAST, 65535);
+        Maker.counts("n", x, 4, 4, 17, 0);
+        Maker.told("both are good rows", x, 7, 4, 17);
     }
 
-    private static void numbers() {
-        CrossTables x = Maker.readTable("7 2 9999999999 9999999999 f\n0 9999999998 n");
-        Maker.counts("ten digits", x, 7, 1, Maker.LAST, Maker.LAST);
-        Maker.counts("a generation that no head has", x, 8, 4, 0, 9999999998L);
-        Maker.told("ten digits", x, 3, 0, 4, 3, 0, 28, 7, 8, 0);
-        Maker.told("eleven digits", Maker.readTable("00000000001 0"), 4, 0, 0);
-        Maker.told("eleven digits behind", Maker.readTable("1 00000000000"), 4, 0, 2);
-        Maker.told("ten digits are a number", Maker.readTable("0000000001 0000000000"));
-        Maker.told("a sign", Maker.readTable("1 -1"), 4, 0, 2);
-        Maker.told("a plus", Maker.readTable("+1 1"), 4, 0, 0);
-        Maker.told("a letter behind", Maker.readTable("1 1a"), 4, 0, 2);
-        Maker.told("below the digits", Maker.readTable("1 1/"), 4, 0, 2);
-        Maker.told("above the digits", Maker.readTable("1 :1"), 4, 0, 2);
-        Maker.told("a byte above 127", Maker.readTable("1 " + (char) 0xB1), 4, 0, 2);
+    private static void usedAndFree() {
+        CrossTables x = Maker.readTable("3 2\n" + Maker.row(5, 1, 'n') + Maker.row(5, 1, 'f'));
+        x.head(5, 3, 1);
+        x.read(10);
+        Maker.counts("n", x, 3, 2, 5, 1);
+        Maker.counts("f", x, 4, 1, 5, 1);
     }
 
-    private static void beginnings() {
+    private static void turns() {
         CrossTables x = Maker.readTable("3 1\n" + Maker.row(1, 1, 'f') + "5 2\n" + Maker.row(2, 2, 'f') + Maker.row(3, 3, 'f')
-                + "9 0\n8 0\n20 1\n" + Maker.row(4, 4, 'f'));
-        Maker.counts("3", x, 3, 1, 1, 1);
-        Maker.counts("5", x, 5, 1, 2, 2);
-        Maker.counts("6", x, 6, 1, 3, 3);
-        Maker.counts("20", x, 20, 1, 4, 4);
-        Maker.nothingCounts("4", x, 4);
-        Maker.nothingCounts("7", x, 7);
-        Maker.nothingCounts("9", x, 9);
-        Maker.told("beginnings", x);
+                + "0 1\n" + Maker.row(4, 4, 'f') + "99 1\n" + Maker.row(5, 5, 'f'));
+        long[] places = new long[100];
+        places[3] = 1;
+        places[5] = 2;
+        places[6] = 3;
+        places[0] = 4;
+        places[99] = 5;
+        for (int object = 0; object < 100; object++) {
+            int asked = object;
+            long want = places[object] == 0 ? -1 : places[object];
+            Check.answers("place(" + object + ", 0)", want, () -> x.place(asked, 0));
+        }
+        Maker.told("turns", x);
     }
 
-    private static void wrongTokens() {
-        Maker.told("first", Maker.readTable("x 1"), 4, 0, 0);
-        Maker.told("second", Maker.readTable("0 x"), 4, 0, 2);
-        Maker.told("n first", Maker.readTable("n"), 4, 0, 0);
-        Maker.told("f second", Maker.readTable("0 f"), 4, 0, 2);
-        Maker.told("third of a beginning", Maker.readTable("0 0 x"), 4, 0, 4);
-        Maker.told("longer than n", Maker.readTable("0 0 nn"), 4, 0, 4);
-        Maker.told("a capital", Maker.readTable("0 0 N"), 4, 0, 4);
-        Maker.told("first of a row", Maker.readTable("0 1 x 0 n"), 4, 0, 4);
-        Maker.told("second of a row", Maker.readTable("0 1 0 x n"), 4, 0, 6);
-        Maker.told("n twice", Maker.readTable("0 2 1 0 f f"), 3, 0, 4, 4, 0, 10);
-        CrossTables x = Maker.readTable("0 2\n" + Maker.row(1, 0, 'f') + "x " + Maker.row(0, 0, 'f') + "5 1 " + Maker.row(0, 0, 'f'));
-        Maker.counts("before what is wrong", x, 0, 1, 1, 0);
-        Maker.nothingCounts("behind it nothing is read", x, 1);
-        Maker.nothingCounts("behind it nothing is read", x, 5);
-        Maker.told("nothing is read", x, 4, 0, 24);
+    private static void due() {
+        for (int rows = 1; rows <= 14; rows++) {
+            int many = rows;
+            CrossTables x = Maker.readTable("0 " + rows + "\n" + GOOD.repeat(rows) + "5 0");
+            Check.answers(rows + " rows", rows, () -> x.read(10));
+            Maker.told(rows + " rows", x);
+            CrossTables y = Maker.readTable("0 " + rows + "\n" + GOOD.repeat(rows - 1));
+            Check.answers("one row less", many - 1, () -> y.read(10));
+            Check.answers("one row less is wrong", 1, () -> y.told(-1, 0));
+        }
     }
 
-    private static void wrongRowsAndBeginnings() {
-        Maker.told("a row when none is due", Maker.readTable("0 0 n"), 4, 0, 0);
-        Maker.told("a row when none is due any more", Maker.readTable("0 1 " + Maker.row(0, 0, 'f') + Maker.row(0, 0, 'f')), 4, 0, 24);
-        Maker.told("a row behind a beginning without rows", Maker.readTable("5 0 1 1 f"), 4, 0, 4);
-        Maker.told("a row of more than 100", Maker.readTable("5 0 1 101 f"), 4, 0, 4);
-        Maker.told("a beginning when a row is due", Maker.readTable("0 1 0 1 0 0 n"), 4, 0, 4);
-        Maker.told("a beginning when a row is due, at the end", Maker.readTable("0 1 0 0"), 4, 0, 4);
-        Maker.told("a beginning when a row is due, another token", Maker.readTable("0 1 0 0 x"), 4, 0, 4);
-        Maker.told("101 due", Maker.readTable(" 0 101"), 4, 0, 1);
-        Maker.told("9999999999 due", Maker.readTable("0 9999999999"), 4, 0, 0);
-        Maker.told("4294967296 due", Maker.readTable("0 4294967296"), 4, 0, 0);
+    private static void noneDue() {
+        CrossTables x = Maker.readTable("5 0\n6 0\n0 0 7 1\n" + GOOD);
+        Check.answers("only behind the last one", 1, () -> x.read(10));
+        Maker.counts("only behind the last one", x, 7, 1, 1, 0);
+        Maker.told("none are due", x);
+        Maker.told("ten digits", Maker.readTable("5 0000000000 6 0"));
+    }
+
+    /** The rows themselves find no room in 300 bytes; but the end is told, and not the beginning. */
+    private static void hundredDue() {
+        Maker.told("99 due", Maker.readTable("0 99"), 4, 0, 4);
         Maker.told("100 due", Maker.readTable("0 100"), 4, 0, 5);
-        CrossTables x = Maker.readTable("0 1 0 0 n\n1 1 0 0 x");
-        Maker.counts("a row before", x, 0, 4, 0, 0);
-        Maker.nothingCounts("no row", x, 1);
-        Maker.told("one row, one beginning", x, 3, 0, 4, 4, 0, 14, 7, 0, 0);
+        Maker.told("100 due, ten digits", Maker.readTable(" 0 0000000100 "), 4, 0, 14);
+        CrossTables x = Maker.readTable("0 100 " + "1 0 f ".repeat(49));
+        Check.answers("49 rows of them", 49, () -> x.read(10));
+        Check.answers("odd rows, and the end", 50, () -> x.told(-1, 0));
+        Check.answers("the end", 300, () -> x.told(49, 2));
     }
 
-    private static void wrongEnds() {
+    private static void noNumberOfBeginning() {
+        Maker.told("the first", Maker.readTable("x 1"), 4, 0, 0);
+        Maker.told("the first, n", Maker.readTable("n"), 4, 0, 0);
+        Maker.told("the first, f", Maker.readTable(" f 0"), 4, 0, 1);
+        Maker.told("the second", Maker.readTable("0 x"), 4, 0, 2);
+        Maker.told("the second, n", Maker.readTable("0 n"), 4, 0, 2);
+        Maker.told("the second, f", Maker.readTable("0  f"), 4, 0, 3);
+        Maker.told("the first of the second beginning", Maker.readTable("0 0 x"), 4, 0, 4);
+        Maker.told("the second of the second beginning", Maker.readTable("0 0 1 x"), 4, 0, 6);
+        Maker.told("behind the rows", Maker.readTable("0 1\n" + GOOD + "trailer"), 4, 0, 24);
+        Maker.told("behind the rows, the second", Maker.readTable("0 1\n" + GOOD + "1 x"), 4, 0, 26);
+    }
+
+    private static void noNumberOfRow() {
+        Maker.told("the first", Maker.readTable("0 1 x 0 n"), 4, 0, 4);
+        Maker.told("the first of the second row, n", Maker.readTable("0 2\n" + GOOD + "n 0 f"), 4, 0, 24);
+        Maker.told("the second", Maker.readTable("0 1 0 x n"), 4, 0, 6);
+        Maker.told("the second, n", Maker.readTable("0 1 0 n"), 4, 0, 6);
+        Maker.told("the second, f", Maker.readTable("0 1 0 f 0 0 f"), 4, 0, 6);
+        Maker.told("the first of the second row", Maker.readTable("0 2\n" + GOOD + "x 0 f"), 4, 0, 24);
+        Maker.told("the second of the second row", Maker.readTable("0 2\n" + GOOD + "0 x f"), 4, 0, 26);
+        Maker.told("f twice", Maker.readTable("0 2\n" + "0000000001 00000 f f" + GOOD), 3, 0, 4, 4, 0, 23);
+    }
+
+    private static void rowWhenNoneIsDue() {
+        Maker.told("at once, n", Maker.readTable("0 0 n"), 4, 0, 0);
+        Maker.told("at once, f", Maker.readTable(" 0 0 f"), 4, 0, 1);
+        Maker.told("at once, more than 100", Maker.readTable("0 101 f"), 4, 0, 0);
+        Maker.told("a beginning that n makes a row", Maker.readTable("0 1 n 0 0 n"), 4, 0, 0);
+        Maker.told("behind the last", Maker.readTable("0 1\n" + GOOD + GOOD), 4, 0, 24);
+        Maker.told("behind the last of two", Maker.readTable("0 2\n" + GOOD + GOOD + GOOD), 4, 0, 44);
+        Maker.told("behind a beginning of none", Maker.readTable("5 0\n" + GOOD), 4, 0, 4);
+        CrossTables x = Maker.readTable("5 0\n" + GOOD);
+        Maker.nothingCounts("it tells nothing", x, 5);
+        Maker.nothingCounts("it tells nothing", Maker.readTable(GOOD), 0);
+    }
+
+    private static void beginningWhenOneIsDue() {
+        Maker.told("at once", Maker.readTable("0 1 7 1 0 0 n"), 4, 0, 4);
+        Maker.told("at once, of none", Maker.readTable("0 1 7 0"), 4, 0, 4);
+        Maker.told("at once, another token", Maker.readTable("0 1 7 0 x"), 4, 0, 4);
+        Maker.told("at once, more than 100", Maker.readTable("0 1 7 101"), 4, 0, 4);
+        Maker.told("when one more is due", Maker.readTable("0 2\n" + GOOD + "7 1\n" + GOOD), 4, 0, 24);
+        Maker.told("when 99 more are due", Maker.readTable("0 100\n" + GOOD + "7 1\n" + GOOD), 4, 0, 26);
+        CrossTables x = Maker.readTable("0 2\n" + GOOD + "7 1\n" + GOOD);
+        Maker.nothingCounts("it begins nothing", x, 7);
+        Maker.nothingCounts("it is no row", x, 1);
+    }
+
+    private static void moreThanHundred() {
+        for (String due : new String[] {"101", "0000000101", "200", "4294967295", "4294967296", "4294967297", "9999999999"}) {
+            CrossTables x = Maker.readTable(" 0 " + due + "\n" + GOOD);
+            Maker.told(due + " due", x, 4, 0, 1);
+            Maker.nothingCounts(due + " due", x, 0);
+        }
+        Maker.told("behind the rows", Maker.readTable("0 1\n" + GOOD + "5 101"), 4, 0, 24);
+        Maker.told("the object may be more", Maker.readTable("101 0 9999999999 0"));
+    }
+
+    private static void endForNumber() {
         Maker.told("behind one number", Maker.readTable("0"), 4, 0, 1);
         Maker.told("behind one number and blanks", Maker.readTable("0  \n"), 4, 0, 4);
-        Maker.told("rows are due", Maker.readTable("0 1"), 4, 0, 3);
-        Maker.told("rows are due, blanks", Maker.readTable("0 1\n\n"), 4, 0, 5);
-        Maker.told("one number of a row", Maker.readTable("0 1 7 "), 4, 0, 6);
-        Maker.told("one row more is due", Maker.readTable("0 2\n" + Maker.row(0, 0, 'f')), 4, 0, 24);
-        Maker.told("no row is due", Maker.readTable("0 0\n"));
-        Maker.told("one number behind the rows", Maker.readTable("0 1\n" + Maker.row(0, 0, 'f') + "5"), 4, 0, 25);
+        Maker.told("behind one number of the second beginning", Maker.readTable("0 0 7"), 4, 0, 5);
+        Maker.told("behind one number of a row", Maker.readTable("0 1 7"), 4, 0, 5);
+        Maker.told("behind one number of a row, and a blank", Maker.readTable("0 1 7 "), 4, 0, 6);
+        Maker.told("behind one number of the second row", Maker.readTable("0 2\n" + GOOD + "5"), 4, 0, 25);
+        Maker.told("one number behind the rows", Maker.readTable("0 1\n" + GOOD + "5"), 4, 0, 25);
     }
 
-    private static void oddRows() {
-        String good = "0000000001 00000 f \n";
-        Maker.told("twenty", Maker.readTable("0 2\n" + good + good));
-        Maker.told("twenty, the beginning behind", Maker.readTable("0 1\n" + good + "5 0"));
-        Maker.told("a blank too few", Maker.readTable("0 2\n0000000001 00000 f\n" + good), 3, 0, 4);
-        Maker.told("a blank too many", Maker.readTable("0 2\n0000000001 00000 f  \n" + good), 3, 0, 4);
-        Maker.told("the end too early", Maker.readTable("0 1\n0000000001 00000 f "), 3, 0, 4);
-        Maker.told("the end too late", Maker.readTable("0 1\n" + good + "\n"), 3, 0, 4);
-        Maker.told("other blanks inside", Maker.readTable("0 1\n1    00000 f        \n" + "5 0"), 3, 0, 4);
-        Maker.told("twenty with other digits", Maker.readTable("0 1\n1    00000 f       \n" + "5 0"));
-        Maker.told("odd, then wrong", Maker.readTable("0 2\n1 2 f x"), 3, 0, 4, 4, 0, 10);
-        Maker.told("odd where an object tells nothing", Maker.readTable("100 1\n1 2 f"), 3, 0, 6);
+    private static void endForRow() {
+        Maker.told("one is due", Maker.readTable("0 1"), 4, 0, 3);
+        Maker.told("one is due, blanks", Maker.readTable("0 1\n\n"), 4, 0, 5);
+        Maker.told("one more is due", Maker.readTable("0 2\n" + GOOD), 4, 0, 24);
+        Maker.told("one is due behind a beginning of none", Maker.readTable("0 0 0 1"), 4, 0, 7);
+        Maker.told("of an object above 99", Maker.readTable("500 1 "), 4, 0, 6);
+    }
+
+    private static void goodEnd() {
+        Maker.told("no bytes", Maker.readTable(""));
+        Maker.told("none are due", Maker.readTable("0 0"));
+        Maker.told("none are due, blanks", Maker.readTable("0 0\n\n"));
+        Maker.told("behind the last row", Maker.readTable("0 1\n" + GOOD));
+    }
+
+    private static void nothingBehind() {
+        String[] wrongs = {"x ", "0 x ", "0 0 f ", "0 101 ", "n "};
+        for (String wrong : wrongs) {
+            CrossTables x = Maker.readTable(wrong + "5 1\n" + "1 2 f " + "x");
+            Check.answers(wrong, 0, () -> x.read(10));
+            Maker.told(wrong, x, 4, 0, wrong.equals("0 x ") ? 2 : 0);
+        }
+        CrossTables x = Maker.readTable("0 2\n7 1\n" + GOOD + "1 2 f 5 1 1 2 f");
+        Check.answers("behind a beginning when a row is due", 0, () -> x.read(10));
+        Maker.told("behind a beginning when a row is due", x, 4, 0, 4);
+    }
+
+    private static void whatIsBefore() {
+        CrossTables x = Maker.readTable("0 2\n" + Maker.row(1, 0, 'f') + Maker.row(0, 7, 'f') + "x 5 1 " + Maker.row(0, 0, 'f'));
+        Check.answers("two", 2, () -> x.read(10));
+        Maker.counts("the first row", x, 0, 1, 1, 0);
+        Maker.counts("the second row", x, 1, 1, 0, 7);
+        Maker.told("behind them", x, 4, 0, 44);
+    }
+
+    private static void oddByNextToken() {
+        String row = "0000000001 00000 f";
+        for (int blanks = 1; blanks <= 5; blanks++) {
+            long[] odd = blanks == 2 ? new long[0] : new long[] {3, 0, 4};
+            String text = "0 2\n" + row + " ".repeat(blanks) + GOOD;
+            Maker.told(blanks + " blanks, a row behind", Maker.readTable(text), odd);
+            text = "0 1\n" + row + " ".repeat(blanks) + "5 0";
+            Maker.told(blanks + " blanks, a beginning behind", Maker.readTable(text), odd);
+        }
+        Maker.told("what is wrong behind", Maker.readTable("0 1\n" + row + "  x"), 4, 0, 24);
+        Maker.told("what is wrong behind, 19 bytes", Maker.readTable("0 1\n" + row + " x"), 3, 0, 4, 4, 0, 23);
+        Maker.told("what is wrong behind, 21 bytes", Maker.readTable("0 1\n" + row + "   x"), 3, 0, 4, 4, 0, 25);
+        Maker.told("each for itself", Maker.readTable("0 3\n" + row + " " + GOOD + row + " "), 3, 0, 4, 3, 0, 43);
+    }
+
+    private static void oddByEnd() {
+        String row = "0000000001 00000 f";
+        for (int blanks = 0; blanks <= 5; blanks++) {
+            long[] odd = blanks == 2 ? new long[0] : new long[] {3, 0, 4};
+            Maker.told(blanks + " blanks, the end behind", Maker.readTable("0 1\n" + row + " ".repeat(blanks)), odd);
+        }
+        Maker.told("the end, a row is due", Maker.readTable("0 2\n" + row + "  "), 4, 0, 24);
+        Maker.told("19 bytes, a row is due", Maker.readTable("0 2\n" + row + " "), 3, 0, 4, 4, 0, 23);
+        Maker.told("21 bytes, a row is due", Maker.readTable("0 2\n" + row + "   "), 3, 0, 4, 4, 0, 25);
+    }
+
+    private static void insideIsFree() {
+        Maker.told("short numbers", Maker.readTable("0 1\n1 2 f" + " ".repeat(15)));
+        Maker.told("blanks between", Maker.readTable("0 1\n1" + " ".repeat(15) + "2 f "));
+        Maker.told("blanks before are not its own", Maker.readTable("0 1" + " ".repeat(30) + "1 2 f" + " ".repeat(15)));
+        Maker.told("twenty bytes without a blank behind", Maker.readTable("0 1\n0000000001  00000  f"));
+        Maker.told("longer than twenty", Maker.readTable("0 1\n0000000001 0000000000 f"), 3, 0, 4);
+    }
+
+    private static void oddAndWrong() {
         CrossTables x = Maker.readTable("0 1\n3 2 f");
         Maker.counts("an odd row counts", x, 0, 1, 3, 2);
+        Maker.told("an odd row", x, 3, 0, 4);
         Maker.told("a wrong row is not odd", Maker.readTable("3 2 f"), 4, 0, 0);
+        Maker.told("nor one behind the last", Maker.readTable("0 1\n" + GOOD + "3 2 f"), 4, 0, 24);
     }
 
-    private static void objectsAboveTheLast() {
-        CrossTables x = Maker.readTable("98 4\n" + Maker.row(1, 1, 'f') + Maker.row(2, 2, 'f') + Maker.row(3, 3, 'f')
-                + Maker.row(4, 4, 'f') + "9999999999 1\n" + Maker.row(5, 5, 'f') + "0 1\n" + Maker.row(6, 6, 'f')
-                + "4294967297 1\n" + Maker.row(7, 7, 'f'));
-        Check.answers("three count", 3, () -> x.read(10));
-        Maker.counts("98", x, 98, 1, 1, 1);
-        Maker.counts("99", x, 99, 1, 2, 2);
-        Maker.counts("0", x, 0, 1, 6, 6);
-        Maker.nothingCounts("1", x, 1);
-        Maker.told("above the last", x);
-    }
-
-    private static void firstRowOfAnObject() {
-        CrossTables x = Maker.readTable("7 1\n" + Maker.row(1, 1, 'f') + "6 2\n" + Maker.row(2, 2, 'f') + Maker.row(3, 3, 'n'));
-        Maker.counts("the first one", x, 7, 1, 1, 1);
-        Maker.counts("6", x, 6, 1, 2, 2);
-        Maker.revisions("once", x, 7, 0);
-        Check.answers("two count", 2, () -> x.read(10));
-    }
-
-    private static void mostTokens() {
-        Maker.told("150 tokens", Maker.readTable("0 ".repeat(150)));
-        Maker.told("150 tokens, the last one wrong", Maker.readTable("0 ".repeat(149) + "x "), 4, 0, 298);
-        CrossTables x = Maker.readTable("9 1 0 7 f ".replace("9", "0 ".repeat(144) + "9"));
-        Maker.counts("in the last tokens", x, 9, 1, 0, 7);
+    private static void oddAboveTheLast() {
+        CrossTables x = Maker.readTable("100 2\n1 2 f " + GOOD);
+        Maker.told("the row of 100", x, 3, 0, 6);
+        Check.answers("it tells nothing", 0, () -> x.read(10));
     }
 
     /** The first table's eighth token stands where the second, of seven, has an n. */
@@ -158,6 +249,11 @@ public final class TableRowsTest {
         Maker.table(x, 10, -1, "0000000000 0000000001 0 0 n 5 0");
         Maker.table(x, 20, 10, "0 0 0 0 0 0 0             0 0 0");
         x.read(20);
-        Maker.told("two tables", x, 3, 0, 22, 7, 0, 0);
+        Maker.told("more tokens before", x, 3, 0, 22, 7, 0, 0);
+        CrossTables y = new CrossTables();
+        Maker.table(y, 10, -1, GOOD);
+        Maker.table(y, 20, 10, "0 3\n" + GOOD);
+        y.read(20);
+        Maker.told("rows that are due in one are not due in the next", y, 4, 1, 24, 4, 0, 0);
     }
 }
