@@ -89,7 +89,7 @@ public final class CrossTables {
     public byte octet(int section, int i) throws NoSuchElementException, ArrayIndexOutOfBoundsException {
         Section asked = existing(section);
         if (i < 0 || i >= asked.byteCount) {
-            // The document names this class for octet alone, though rule 6 of LANGUAGE.md does not list it.
+            // Promise 4 names this class, and rule 6 of LANGUAGE.md wants exactly what the document says.
             throw new ArrayIndexOutOfBoundsException("the section has no such byte");
         }
         return asked.bytes[i];

@@ -50,6 +50,9 @@ public final class RandomRunsTest {
     }
 
     private void both(String what, Check.Call one, Check.Call other) {
+        if (calls >= CALLS) {
+            return;
+        }
         calls++;
         Check.same("run " + run + ", call " + calls + ", " + what, Check.outcome(other), Check.outcome(one));
     }

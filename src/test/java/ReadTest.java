@@ -14,6 +14,7 @@ public final class ReadTest {
         Check.sentence("then no section tells, none is free, none has a trailer", ReadTest::nothingElse);
         Check.sentence("a reading knows nothing of the one before it", ReadTest::readAgain);
         Check.sentence("what comes later is not read", ReadTest::whatComesLater);
+        Check.sentence("An object is used for at most 512 calls: up to the last one", ReadTest::lastCall);
         Check.end();
     }
 
@@ -142,5 +143,13 @@ public final class ReadTest {
         Check.answers("read again", 5, () -> x.read(10));
         Maker.told("read again", x, 6, 1, 8);
         Maker.counts("read again", x, 2, 2, 7, 0);
+    }
+
+    /** A full object takes 392 calls to make; each reading of it goes along all twelve sections. */
+    private static void lastCall() {
+        CrossTables x = States.full();
+        for (int call = 393; call <= 512; call++) {
+            Check.answers("call " + call, 14, () -> x.read(100));
+        }
     }
 }

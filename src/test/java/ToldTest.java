@@ -280,7 +280,7 @@ public final class ToldTest {
     private static void indicesBeyond() {
         int many = (int) States.some().told(-1, 0);
         Check.answers("the first", 5, () -> States.some().told(0, 0));
-        Check.answers("the last", 6, () -> States.some().told(many - 2, 0));
+        Check.answers("the last", 7, () -> States.some().told(many - 1, 0));
         for (int i : new int[] {-2, many, many + 1, 199, 200, 256, Integer.MIN_VALUE, Integer.MAX_VALUE}) {
             for (int what = -1; what <= 3; what++) {
                 int asked = what;

@@ -67,12 +67,14 @@ final class Check {
         try {
             return Long.toString(call.answer());
         } catch (RuntimeException e) {
-            return isOfMachine(e) ? e.toString() : e.getClass().getName();
+            return isOfMachine(e) ? "by the machine: " + e : e.getClass().getName();
         }
     }
 
+    /** What the machine throws has words of its own, or, where it has thrown it often, neither words nor a trace. */
     private static boolean isOfMachine(RuntimeException e) {
-        return e.getMessage() != null && e.getMessage().contains("out of bounds for length");
+        return e.getStackTrace().length == 0
+                || e.getMessage() != null && e.getMessage().contains("out of bounds for length");
     }
 
     private static void complain(String text) {

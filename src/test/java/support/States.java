@@ -28,8 +28,9 @@ final class States {
     }
 
     /**
-     * Twelve sections, at 100, 200, .. 1200, each before the one that was made before it; section 0 is a table
-     * with 300 bytes, section 1 a stream with 6 runs beside it; 60 heads, at 0, 10, .. 590.
+     * Twelve sections, at 100, 200, .. 1200; section 0 is a table with 300 bytes, section 1 a stream with 6 runs
+     * beside it, the others are before one another; 60 heads, at 0, 10, .. 590. The last run, and the head that
+     * was made last (of object 1), are of those that a reading looks at.
      */
     static CrossTables full() {
         CrossTables x = new CrossTables();
@@ -39,15 +40,17 @@ final class States {
         }
         Maker.table(x, 100, 300, text.toString());
         Maker.stream(x, 200, -1, 1, 0, 18, 0, 2, 0, 3, 4, 1);
+        x.widths(1, 0, 1, 0);
         for (int i = 2; i < 12; i++) {
             x.section(i % 2, (i + 1) * 100, i == 11 ? -1 : (i + 2) * 100);
         }
         x.beside(0, 200);
         for (int i = 0; i < 6; i++) {
-            x.run(1, 3 + 7 * i, 1);
+            x.run(1, 3 + i, 1);
         }
-        for (int i = 0; i < 60; i++) {
-            x.head(i * 10, i, i % 3);
+        for (int i = 2; i < 62; i++) {
+            int object = i % 60;
+            x.head(object * 10, object, object % 3);
         }
         x.key(0, 1, 11);
         x.key(11, 2, 22);
