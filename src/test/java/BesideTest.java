@@ -73,8 +73,8 @@ public final class BesideTest {
 
     private static void firstNamed() {
         for (long place : new long[] {-2, Maker.LAST + 1}) {
-            Check.refuses("beside(-1, " + place + ")", NoSuchElementException.class, () -> States.some().beside(-1, place));
-            Check.refuses("beside(3, " + place + ")", NoSuchElementException.class, () -> States.some().beside(3, place));
+            Twins.refuse("beside(-1, " + place + ")", NoSuchElementException.class, States::some, x -> x.beside(-1, place));
+            Twins.refuse("beside(3, " + place + ")", NoSuchElementException.class, States::some, x -> x.beside(3, place));
         }
     }
 }

@@ -89,8 +89,8 @@ public final class KeyTest {
 
     private static void firstNamed() {
         for (int key : new int[] {-1, 10}) {
-            Check.refuses("no section 3, and key " + key, NONE, () -> States.some().key(3, key, 1));
-            Check.refuses("no section -1, and key " + key, NONE, () -> States.some().key(-1, key, 1));
+            Twins.refuse("no section 3, and key " + key, NONE, States::some, x -> x.key(3, key, 1));
+            Twins.refuse("no section -1, and key " + key, NONE, States::some, x -> x.key(-1, key, 1));
         }
     }
 }

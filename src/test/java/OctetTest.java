@@ -61,8 +61,8 @@ public final class OctetTest {
 
     private static void firstNamed() {
         for (int i : new int[] {-1, 300, Integer.MIN_VALUE, Integer.MAX_VALUE}) {
-            Check.refuses("octet(-1, " + i + ")", NoSuchElementException.class, () -> States.some().octet(-1, i));
-            Check.refuses("octet(3, " + i + ")", NoSuchElementException.class, () -> States.some().octet(3, i));
+            Twins.refuse("octet(-1, " + i + ")", NoSuchElementException.class, States::some, x -> x.octet(-1, i));
+            Twins.refuse("octet(3, " + i + ")", NoSuchElementException.class, States::some, x -> x.octet(3, i));
         }
     }
 }

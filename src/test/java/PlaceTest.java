@@ -67,7 +67,7 @@ public final class PlaceTest {
                 int asked = what;
                 Twins.refuse("place(" + object + ", " + what + ")", INDEX, States::some, x -> x.place(object, asked));
             }
-            Check.refuses("place(" + object + ", 0), nothing is read", INDEX, () -> new CrossTables().place(object, 0));
+            Twins.refuse("place(" + object + ", 0), nothing is read", INDEX, States::fresh, x -> x.place(object, 0));
         }
     }
 
@@ -76,7 +76,7 @@ public final class PlaceTest {
         for (int what : new int[] {-1, 2, 256, Integer.MIN_VALUE, Integer.MAX_VALUE}) {
             Twins.refuse("place(0, " + what + ")", INDEX, States::some, x -> x.place(0, what));
             Twins.refuse("place(99, " + what + ")", INDEX, States::some, x -> x.place(99, what));
-            Check.refuses("place(0, " + what + "), nothing is read", INDEX, () -> new CrossTables().place(0, what));
+            Twins.refuse("place(0, " + what + "), nothing is read", INDEX, States::fresh, x -> x.place(0, what));
         }
     }
 }

@@ -88,7 +88,7 @@ public final class RevisionTest {
                 int asked = i;
                 Twins.refuse("revision(" + object + ", " + i + ")", INDEX, States::some, x -> x.revision(object, asked));
             }
-            Check.refuses("revision(" + object + ", -1), nothing is read", INDEX, () -> new CrossTables().revision(object, -1));
+            Twins.refuse("revision(" + object + ", -1), nothing is read", INDEX, States::fresh, x -> x.revision(object, -1));
         }
     }
 
@@ -96,7 +96,7 @@ public final class RevisionTest {
         for (int i : new int[] {-2, -3, Integer.MIN_VALUE}) {
             Twins.refuse("revision(0, " + i + ")", INDEX, States::some, x -> x.revision(0, i));
             Twins.refuse("revision(99, " + i + ")", INDEX, States::some, x -> x.revision(99, i));
-            Check.refuses("revision(0, " + i + "), nothing is read", INDEX, () -> new CrossTables().revision(0, i));
+            Twins.refuse("revision(0, " + i + "), nothing is read", INDEX, States::fresh, x -> x.revision(0, i));
         }
     }
 }

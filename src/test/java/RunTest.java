@@ -115,7 +115,7 @@ public final class RunTest {
         Twins.refuse("first 1000 when it has 6", ARGUMENT, States::full, x -> x.run(1, 1000, 1));
         Twins.refuse("many 0 when it has 6", ARGUMENT, States::full, x -> x.run(1, 0, 0));
         Twins.refuse("many 101 when it has 6", ARGUMENT, States::full, x -> x.run(1, 0, 101));
-        Check.refuses("no section 3, and first -1", NONE, () -> States.some().run(3, -1, 1));
-        Check.refuses("no section -1, and many 0", NONE, () -> States.some().run(-1, 0, 0));
+        Twins.refuse("no section 3, and first -1", NONE, States::some, x -> x.run(3, -1, 1));
+        Twins.refuse("no section -1, and many 0", NONE, States::some, x -> x.run(-1, 0, 0));
     }
 }

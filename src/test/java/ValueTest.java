@@ -68,8 +68,8 @@ public final class ValueTest {
 
     private static void firstNamed() {
         for (int key : new int[] {-1, 10}) {
-            Check.refuses("no section 3, and key " + key, NONE, () -> States.some().value(3, key));
-            Check.refuses("no section -1, and key " + key, NONE, () -> States.some().value(-1, key));
+            Twins.refuse("no section 3, and key " + key, NONE, States::some, x -> x.value(3, key));
+            Twins.refuse("no section -1, and key " + key, NONE, States::some, x -> x.value(-1, key));
         }
     }
 }

@@ -94,8 +94,8 @@ public final class WidthsTest {
 
     private static void firstNamed() {
         Class<NoSuchElementException> none = NoSuchElementException.class;
-        Check.refuses("no section 3, and a = 5", none, () -> States.some().widths(3, 5, 1, 1));
-        Check.refuses("no section -1, and b = -1", none, () -> States.some().widths(-1, 1, -1, 1));
-        Check.refuses("no section 12, and c = 5", none, () -> States.full().widths(12, 1, 1, 5));
+        Twins.refuse("no section 3, and a = 5", none, States::some, x -> x.widths(3, 5, 1, 1));
+        Twins.refuse("no section -1, and b = -1", none, States::some, x -> x.widths(-1, 1, -1, 1));
+        Twins.refuse("no section 12, and c = 5", none, States::full, x -> x.widths(12, 1, 1, 5));
     }
 }
